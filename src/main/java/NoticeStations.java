@@ -562,7 +562,6 @@ public final class NoticeStations {
         }
 
         void collect(int newNumber, int newEntry) {
-            clear();
             number = newNumber;
             entry = newEntry;
         }

@@ -46,6 +46,14 @@ final class Coast {
         }
     }
 
+    void loseAllBut(int kind) {
+        for (int i = x.letters() - 1; i >= 0; i--) {
+            if (x.letter(i, 0) != kind) {
+                x.lose(i);
+            }
+        }
+    }
+
     /** Letters until the row has that many: twins of its first. */
     void fill(int many) {
         for (int have = x.letters(); have < many; have++) {
@@ -70,6 +78,11 @@ final class Coast {
     /** Takes a write that collects to its end at all that granted. */
     void finish(int writer, int... others) {
         Check.due("decide(" + writer + ")", x.decide(writer), true);
+        finishPrepared(writer, others);
+    }
+
+    /** Takes a write that prepares to its end at all of its group. */
+    void finishPrepared(int writer, int... others) {
         for (int other : others) {
             pass(PREPARE, writer, other);
         }

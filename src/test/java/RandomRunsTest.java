@@ -1,16 +1,21 @@
+import java.lang.reflect.InvocationTargetException;
+import java.lang.reflect.Method;
+import java.lang.reflect.Modifier;
 import java.util.Map;
 import java.util.Random;
 import java.util.TreeMap;
+import java.util.function.Predicate;
 
 /** Random runs of at most 512 calls, every answer compared with the model's, and all that can be read at the end. */
 public final class RandomRunsTest {
-    private static final int RUNS = 6000;
+    private static final int RUNS = 4000;
     private static final int CALLS = 512;
     private static final String[] OPS = {"cable", "write", "withdraw", "decide", "giveUp", "resend", "unlock", "ask",
         "stop", "start", "letters", "deliver", "lose", "twin", "letter", "count", "entry", "about", "allowed",
         "inForce"};
     // how often a call is drawn in a run is drawn for the run, from 0 up to this
-    private static final int[] MOST = {6, 60, 20, 60, 6, 12, 8, 30, 5, 8, 2, 400, 60, 40, 6, 4, 6, 12, 12, 10};
+    private static final int[] MOST = {6, 60, 40, 60, 4, 12, 8, 30, 3, 10, 2, 400, 40, 30, 6, 4, 6, 12, 12, 10};
+    private static final String[] OPENERS = {"write", "write", "withdraw", "unlock", "resend", "ask", "decide"};
     private static final String[] EDGES = {"write IndexOutOfBounds", "write IllegalArgument", "write IllegalState",
         "write UnsupportedOperation", "withdraw NoSuchElement", "withdraw IllegalState",
         "withdraw UnsupportedOperation", "decide 0", "decide 1", "decide IllegalState",
@@ -20,6 +25,7 @@ public final class RandomRunsTest {
         "deliver IllegalState", "deliver UnsupportedOperation", "deliver 0", "deliver 1", "deliver 2", "deliver 3",
         "deliver 4", "deliver 5", "deliver 6", "twin UnsupportedOperation", "allowed 1", "inForce 2", "count 16"};
 
+    private static final Map<String, Method> METHODS = methods();
     private static final Map<String, Integer> seen = new TreeMap<>();
 
     private final Random random;
@@ -29,6 +35,9 @@ public final class RandomRunsTest {
     private final int[] weights = new int[OPS.length];
     private final int reach;
     private final int wild;
+    private final int mended;
+    private final boolean crowded;
+    private final boolean calm;
     private int calls = 0;
     private boolean right = true;
 
@@ -38,6 +47,9 @@ public final class RandomRunsTest {
             weights[op] = random.nextInt(MOST[op] + 1);
         }
         reach = 1 + random.nextInt(5);
+        crowded = random.nextInt(6) == 0;
+        calm = random.nextInt(2) == 0;
+        mended = 2 + random.nextInt(4);
         wild = random.nextInt(3) == 0 ? 10 : 200;
     }
 
@@ -52,17 +64,88 @@ public final class RandomRunsTest {
     }
 
     private void run(int seed) {
+        if (random.nextInt(5) == 0) {
+            fillBook(10 + random.nextInt(7));
+        }
         int drawn = CALLS - random.nextInt(2) * 361;
         while (right && calls < drawn) {
-            String op = draw();
-            int[] a = arguments(op);
-            compare(op, a[0], a[1], a[2], a[3]);
+            if (calm && random.nextInt(12) != 0) {
+                goOn();
+            } else {
+                String op = sensible(draw());
+                int[] a = arguments(op);
+                compare(op, a[0], a[1], a[2], a[3]);
+            }
         }
         readAll();
         agree();
         if (!right) {
             Check.fail("run " + seed + ":" + told);
         }
+    }
+
+    // stations 0, 1 and 2 write one entry, 0 and 1 the next, and 0 alone the others
+    private void fillBook(int places) {
+        compare("write", 0, any(4), any(100), any(100));
+        for (int i : new int[] {0, 0, 2, 2}) {
+            compare("deliver", i, 0, 0, 0);
+        }
+        compare("decide", 0, 0, 0, 0);
+        for (int many = 0; many < 6; many++) {
+            compare("deliver", 2, 0, 0, 0);
+        }
+        loseAll();
+        compare("write", 0, any(4), any(100), any(100));
+        compare("deliver", 0, 0, 0, 0);
+        compare("deliver", 3, 0, 0, 0);
+        compare("decide", 0, 0, 0, 0);
+        for (int many = 0; many < 3; many++) {
+            compare("deliver", 3, 0, 0, 0);
+        }
+        for (int k = 2; k < places; k++) {
+            loseAll();
+            compare(random.nextInt(4) == 0 ? "withdraw" : "write", 0, any(4), any(100), any(100));
+            compare("decide", 0, 0, 0, 0);
+        }
+    }
+
+    private void loseAll() {
+        for (int left = model.letters(); left > 0; left--) {
+            compare("lose", 0, 0, 0, 0);
+        }
+    }
+
+    // in a calm run mostly the call that brings some write nearer to its end, so that books grow
+    private void goOn() {
+        int writer = first(-1, p -> p.open != null);
+        int letter = lively(writer);
+        if (letter >= 0 && random.nextInt(6) != 0) {
+            compare("deliver", letter, 0, 0, 0);
+        } else if (writer >= 0) {
+            boolean decides = model.places.get(writer).open.next == null && random.nextInt(3) != 0;
+            compare(decides ? "decide" : random.nextInt(4) == 0 ? "giveUp" : "resend", writer, 0, 0, 0);
+        } else if (first(-1, p -> p.doubt != null) >= 0 && random.nextInt(3) == 0) {
+            compare("ask", first(-1, p -> p.doubt != null), random.nextInt(5), 0, 0);
+        } else if (first(-1, p -> p.lock != null) >= 0 && random.nextInt(2) == 0) {
+            compare("unlock", first(-1, p -> p.lock != null), 0, 0, 0);
+        } else if (model.letters() > 8) {
+            compare("lose", random.nextInt(model.letters()), 0, 0, 0);
+        } else {
+            int[] a = arguments("write");
+            boolean takesBack = random.nextInt(4) == 0 && a[0] >= 0 && a[0] < 5 && model.count(a[0]) > 0;
+            compare(takesBack ? "withdraw" : "write", a[0], takesBack ? a[1] : any(4), a[2], a[3]);
+        }
+    }
+
+    private int lively(int writer) {
+        for (int tries = 0; tries < 20 && model.letters() > 0; tries++) {
+            int i = random.nextInt(model.letters());
+            boolean alive = writer < 0 || model.row.get(i).number() == model.places.get(writer).open.number;
+            if (alive && model.places.get(model.row.get(i).to()).up) {
+                return i;
+            }
+        }
+        return -1;
     }
 
     private String draw() {
@@ -80,6 +163,20 @@ public final class RandomRunsTest {
         return "deliver";
     }
 
+    // most calls about letters that are not there are such as make letters, most stops are starts,
+    // and in a crowded run the row is kept nearly full
+    private String sensible(String op) {
+        boolean aboutLetters = op.equals("deliver") || op.equals("lose") || op.equals("twin") || op.equals("letter");
+        if (aboutLetters && model.letters() == 0 && random.nextInt(20) != 0) {
+            return OPENERS[random.nextInt(OPENERS.length)];
+        }
+        if (crowded && model.letters() > 0 && model.letters() < 38 && random.nextInt(2) == 0) {
+            return "twin";
+        }
+        boolean enoughStopped = model.places.stream().filter(p -> !p.up).count() > 1;
+        return op.equals("stop") && enoughStopped && random.nextInt(4) != 0 ? "start" : op;
+    }
+
     private int any(int bound) {
         return random.nextInt(wild) == 0 ? random.nextInt(bound + 4) - 2 : random.nextInt(Math.max(1, bound));
     }
@@ -94,13 +191,21 @@ public final class RandomRunsTest {
         int row = model.letters();
         switch (op) {
             case "cable":
-                return new int[] {s, any(5), random.nextInt(2), 0};
+                return new int[] {s, any(5), one(random.nextInt(mended) != 0), 0};
             case "write":
+                s = random.nextInt(3) == 0 ? s : first(s, p -> p.up && p.lock == null && p.doubt == null);
                 return new int[] {s, any(4), any(100), any(100)};
-            case "decide", "giveUp", "resend":
-                return new int[] {random.nextInt(8) == 0 ? s : opened(s), 0, 0, 0};
+            case "decide":
+                return new int[] {random.nextInt(8) == 0 ? s : first(s, p -> p.open != null && p.open.granted.size() > 2),
+                    0, 0, 0};
+            case "giveUp", "resend":
+                return new int[] {random.nextInt(8) == 0 ? s : first(s, p -> p.open != null), 0, 0, 0};
             case "ask":
-                return new int[] {random.nextInt(8) == 0 ? s : doubting(s), any(5), 0, 0};
+                return new int[] {random.nextInt(8) == 0 ? s : first(s, p -> p.doubt != null), any(5), 0, 0};
+            case "start":
+                return new int[] {random.nextInt(3) == 0 ? s : first(s, p -> !p.up), 0, 0, 0};
+            case "unlock":
+                return new int[] {random.nextInt(3) == 0 ? s : first(s, p -> p.lock != null), 0, 0, 0};
             case "deliver", "lose", "twin":
                 return new int[] {random.nextInt(3) == 0 ? Math.max(0, row - 1) : any(row), 0, 0, 0};
             case "letter":
@@ -116,20 +221,10 @@ public final class RandomRunsTest {
         }
     }
 
-    private int opened(int otherwise) {
+    private int first(int otherwise, Predicate<Model.Place> fits) {
         for (int s = 0; s < 5; s++) {
             int turned = (s + calls) % 5;
-            if (model.places.get(turned).open != null) {
-                return turned;
-            }
-        }
-        return otherwise;
-    }
-
-    private int doubting(int otherwise) {
-        for (int s = 0; s < 5; s++) {
-            int turned = (s + calls) % 5;
-            if (model.places.get(turned).doubt != null) {
+            if (fits.test(model.places.get(turned))) {
                 return turned;
             }
         }
@@ -141,8 +236,8 @@ public final class RandomRunsTest {
             return;
         }
         calls++;
-        String want = answer(false, op, a, b, c, d);
-        String got = answer(true, op, a, b, c, d);
+        String want = answer(model, op, a, b, c, d);
+        String got = answer(x, op, a, b, c, d);
         told.append(' ').append(op).append('(').append(a).append(',').append(b).append(',').append(c).append(',');
         told.append(d).append(")=").append(got);
         Check.due(op, got, want);
@@ -150,70 +245,36 @@ public final class RandomRunsTest {
         seen.merge(op + " " + want, 1, Integer::sum);
     }
 
-    private String answer(boolean real, String op, int a, int b, int c, int d) {
-        try {
-            return String.valueOf(real ? real(op, a, b, c, d) : due(op, a, b, c, d));
-        } catch (RuntimeException e) {
-            return e.getClass().getSimpleName().replace("Exception", "");
+    private static String answer(Object target, String op, int... drawn) {
+        Method method = METHODS.get(target.getClass().getName() + "." + op);
+        Object[] a = new Object[method.getParameterCount()];
+        for (int i = 0; i < a.length; i++) {
+            a[i] = method.getParameterTypes()[i] == boolean.class ? (Object) (drawn[i] == 1) : (Object) drawn[i];
         }
+        try {
+            Object got = method.invoke(target, a);
+            return got instanceof Boolean truth ? (truth ? "1" : "0") : String.valueOf(got);
+        } catch (InvocationTargetException e) {
+            return e.getCause().getClass().getSimpleName().replace("Exception", "");
+        } catch (IllegalAccessException e) {
+            return "no access";
+        }
+    }
+
+    private static Map<String, Method> methods() {
+        Map<String, Method> named = new TreeMap<>();
+        for (Class<?> owner : new Class<?>[] {NoticeStations.class, Model.class}) {
+            for (Method method : owner.getDeclaredMethods()) {
+                if (!Modifier.isPrivate(method.getModifiers())) {
+                    named.put(owner.getName() + "." + method.getName(), method);
+                }
+            }
+        }
+        return named;
     }
 
     private static int one(boolean answer) {
         return answer ? 1 : 0;
-    }
-
-    private static int nothing() {
-        return 0;
-    }
-
-    private int real(String op, int a, int b, int c, int d) {
-        switch (op) {
-            case "cable": return one(x.cable(a, b, c == 1));
-            case "write": return x.write(a, b, c, d);
-            case "withdraw": return x.withdraw(a, b);
-            case "decide": return one(x.decide(a));
-            case "giveUp": x.giveUp(a); return nothing();
-            case "resend": return x.resend(a);
-            case "unlock": x.unlock(a); return nothing();
-            case "ask": x.ask(a, b); return nothing();
-            case "stop": return one(x.stop(a));
-            case "start": return one(x.start(a));
-            case "letters": return x.letters();
-            case "deliver": return x.deliver(a);
-            case "lose": x.lose(a); return nothing();
-            case "twin": x.twin(a); return nothing();
-            case "letter": return x.letter(a, b);
-            case "count": return x.count(a);
-            case "entry": return x.entry(a, b, c == 1);
-            case "about": return x.about(a, b);
-            case "allowed": return one(x.allowed(a));
-            default: return x.inForce(a, b, c);
-        }
-    }
-
-    private int due(String op, int a, int b, int c, int d) {
-        switch (op) {
-            case "cable": return one(model.cable(a, b, c == 1));
-            case "write": return model.write(a, b, c, d);
-            case "withdraw": return model.withdraw(a, b);
-            case "decide": return one(model.decide(a));
-            case "giveUp": model.giveUp(a); return nothing();
-            case "resend": return model.resend(a);
-            case "unlock": model.unlock(a); return nothing();
-            case "ask": model.ask(a, b); return nothing();
-            case "stop": return one(model.stop(a));
-            case "start": return one(model.start(a));
-            case "letters": return model.letters();
-            case "deliver": return model.deliver(a);
-            case "lose": model.lose(a); return nothing();
-            case "twin": model.twin(a); return nothing();
-            case "letter": return model.letter(a, b);
-            case "count": return model.count(a);
-            case "entry": return model.entry(a, b, c == 1);
-            case "about": return model.about(a, b);
-            case "allowed": return one(model.allowed(a));
-            default: return model.inForce(a, b, c);
-        }
     }
 
     private void readAll() {
