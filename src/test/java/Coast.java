@@ -81,8 +81,14 @@ final class Coast {
         finishPrepared(writer, others);
     }
 
-    /** Takes a write that prepares to its end at all of its group. */
+    /** Takes a write that prepares to its end at all of its group, and loses all other letters. */
     void finishPrepared(int writer, int... others) {
+        finishOnly(writer, others);
+        loseAll();
+    }
+
+    /** Takes a write that prepares to its end at all of its group. */
+    void finishOnly(int writer, int... others) {
         for (int other : others) {
             pass(PREPARE, writer, other);
         }
@@ -92,7 +98,6 @@ final class Coast {
         for (int other : others) {
             pass(COMMIT, writer, other);
         }
-        loseAll();
     }
 
     int written(int writer, int... others) {
