@@ -28,6 +28,7 @@ public final class EdgesOfReadingTest {
         inForceOnItsDays();
         inForceInItsArea();
         inForceUntilWithdrawn();
+        inForceOfExtremeNotices();
         inForceOfAWholeBook();
         Check.end();
     }
@@ -280,6 +281,14 @@ public final class EdgesOfReadingTest {
             x.decide(0);
         });
         Edge.idle("inForce, both withdrawn", 0, both, x -> x.inForce(0, 0, 50));
+    }
+
+    /** the least notice, of area 0 from day 0 to day 0, is the entry 0, and the greatest 39999 */
+    private static void inForceOfExtremeNotices() {
+        Edge.idle("inForce, the least notice", 4, notice(0, 0, 0), x -> x.inForce(0, 0, 0));
+        Edge.idle("inForce, the day behind", 3, notice(0, 0, 0), x -> x.inForce(0, 0, 1));
+        Edge.idle("inForce, the greatest notice", 1, notice(3, 99, 99), x -> x.inForce(0, 3, 99));
+        Edge.idle("inForce, the day before", 0, notice(3, 99, 99), x -> x.inForce(0, 3, 98));
     }
 
     private static void inForceOfAWholeBook() {

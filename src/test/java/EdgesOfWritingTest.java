@@ -31,6 +31,7 @@ public final class EdgesOfWritingTest {
         writeCountsOnlyWhatBegan();
         withdrawOfNoStation();
         withdrawOfAPlace();
+        withdrawOfTheLeastNotice();
         withdrawOfAWithdrawal();
         withdrawOfAWithdrawnOne();
         withdrawOfTheLastPlace();
@@ -258,6 +259,20 @@ public final class EdgesOfWritingTest {
         Edge.refused("withdraw of an empty book", ELEMENT, three, x -> x.withdraw(4, 0));
         Edge.taken("withdraw of a shorter book, its last", 6, three, x -> x.withdraw(1, 1));
         Edge.refused("withdraw of a shorter book, behind it", ELEMENT, three, x -> x.withdraw(1, 2));
+    }
+
+    /** the least notice is the entry 0, the greatest withdrawal the entry -1 */
+    private static void withdrawOfTheLeastNotice() {
+        Supplier<Coast> least = States.then(() -> States.entries(3), x -> {
+            x.write(0, 0, 0, 0);
+            x.decide(0);
+        });
+        Edge.taken("withdraw the entry 0", 25, least, x -> x.withdraw(0, 3));
+        Supplier<Coast> greatest = States.then(() -> States.entries(3), x -> {
+            x.withdraw(0, 0);
+            x.decide(0);
+        });
+        Edge.refused("withdraw the entry -1", ELEMENT, greatest, x -> x.withdraw(0, 3));
     }
 
     /** Four entries of station 0, the last being the withdrawal of place 1. */
