@@ -1,6 +1,8 @@
 import java.lang.reflect.InvocationTargetException;
 import java.lang.reflect.Method;
 import java.lang.reflect.Modifier;
+import java.util.ArrayList;
+import java.util.List;
 import java.util.Map;
 import java.util.Random;
 import java.util.TreeMap;
@@ -27,6 +29,7 @@ public final class RandomRunsTest {
 
     private static final Map<String, Method> METHODS = methods();
     private static final Map<String, Integer> seen = new TreeMap<>();
+    private static int withRivals = 0;
 
     private final Random random;
     private final NoticeStations x = new NoticeStations();
@@ -37,9 +40,12 @@ public final class RandomRunsTest {
     private final int wild;
     private final int mended;
     private final boolean crowded;
-    private final boolean calm;
+    private final int manner;
+    // what was first seen at each place, on any station, at any time
+    private final List<Model.Line> book = new ArrayList<>();
     private int calls = 0;
     private boolean right = true;
+    private boolean rivals = false;
 
     private RandomRunsTest(long seed) {
         random = new Random(seed);
@@ -48,7 +54,7 @@ public final class RandomRunsTest {
         }
         reach = 1 + random.nextInt(5);
         crowded = random.nextInt(6) == 0;
-        calm = random.nextInt(2) == 0;
+        manner = random.nextInt(5);
         mended = 2 + random.nextInt(4);
         wild = random.nextInt(3) == 0 ? 10 : 200;
     }
@@ -60,6 +66,7 @@ public final class RandomRunsTest {
         for (String edge : EDGES) {
             Check.due("runs that came to " + edge, seen.containsKey(edge), true);
         }
+        Check.due("more than 100 runs in which two prepared at once", withRivals > 100, true);
         Check.end();
     }
 
@@ -69,8 +76,10 @@ public final class RandomRunsTest {
         }
         int drawn = CALLS - random.nextInt(2) * 361;
         while (right && calls < drawn) {
-            if (calm && random.nextInt(12) != 0) {
+            if (manner < 2 && random.nextInt(12) != 0) {
                 goOn();
+            } else if (manner == 2 && random.nextInt(30) != 0) {
+                rival();
             } else {
                 String op = sensible(draw());
                 int[] a = arguments(op);
@@ -78,7 +87,7 @@ public final class RandomRunsTest {
             }
         }
         readAll();
-        agree();
+        withRivals += rivals ? 1 : 0;
         if (!right) {
             Check.fail("run " + seed + ":" + told);
         }
@@ -135,6 +144,31 @@ public final class RandomRunsTest {
             boolean takesBack = random.nextInt(4) == 0 && a[0] >= 0 && a[0] < 5 && model.count(a[0]) > 0;
             compare(takesBack ? "withdraw" : "write", a[0], takesBack ? a[1] : any(4), a[2], a[3]);
         }
+    }
+
+    // in a run of rivals as many as can write at once, and locks are taken away, so that several prepare
+    private void rival() {
+        int some = random.nextInt(20);
+        int writer = first(-1, p -> p.open != null && p.open.next == null && p.open.granted.size() > 1);
+        int locked = first(-1, p -> p.lock != null && p.open == null);
+        if (model.letters() > 0 && some < 12) {
+            int last = model.letters() - 1;
+            compare("deliver", random.nextInt(3) == 0 ? last : random.nextInt(last + 1), 0, 0, 0);
+        } else if (writer >= 0 && some < 15) {
+            compare("decide", writer, 0, 0, 0);
+        } else if (locked >= 0 && some < 17) {
+            compare("unlock", locked, 0, 0, 0);
+        } else if (some == 17 && model.letters() > 0) {
+            compare(model.letters() > 20 ? "lose" : "twin", random.nextInt(model.letters()), 0, 0, 0);
+        } else if (some == 18) {
+            compare("ask", first(0, p -> p.doubt != null), random.nextInt(5), 0, 0);
+        } else if (some == 19 && first(-1, p -> p.open != null) >= 0) {
+            compare(random.nextInt(3) == 0 ? "giveUp" : "resend", first(0, p -> p.open != null), 0, 0, 0);
+        } else {
+            int s = first(0, p -> p.up && p.lock == null && p.doubt == null);
+            compare("write", s, any(4), any(100), any(100));
+        }
+        rivals |= model.places.stream().filter(p -> p.open != null && p.open.next != null).count() > 1;
     }
 
     private int lively(int writer) {
@@ -243,6 +277,7 @@ public final class RandomRunsTest {
         Check.due(op, got, want);
         right = got.equals(want);
         seen.merge(op + " " + want, 1, Integer::sum);
+        agree();
     }
 
     private static String answer(Object target, String op, int... drawn) {
@@ -299,11 +334,14 @@ public final class RandomRunsTest {
     /** No two stations ever have different entries at a place. */
     private void agree() {
         for (int s = 0; s < 5; s++) {
-            for (int t = 0; t < s; t++) {
-                int both = Math.min(model.count(s), model.count(t));
-                for (int k = 0; k < both; k++) {
-                    boolean same = model.places.get(s).held.book().get(k).equals(model.places.get(t).held.book().get(k));
-                    Check.due("stations " + s + " and " + t + " agree at place " + k, same, true);
+            List<Model.Line> lines = model.places.get(s).held.book();
+            for (int k = 0; k < lines.size(); k++) {
+                if (k == book.size()) {
+                    book.add(lines.get(k));
+                }
+                if (!lines.get(k).equals(book.get(k))) {
+                    Check.fail("station " + s + " has another entry at place " + k);
+                    right = false;
                 }
             }
         }
